@@ -1285,7 +1285,6 @@ public final class FiddlerDebts {
                     }
                 }
             }
-            size = 0;
             return false;
         }
 
@@ -1498,7 +1497,6 @@ public final class FiddlerDebts {
             worth = 0;
             owers = 0;
             minutes = 0;
-            Arrays.fill(halves, 0);
             for (int debt = 0; debt < debts.size && debt < MOST_DEBTS; debt++) {
                 long place = places[debt];
                 int many = place > 0 ? (int) (chosen / place % 10) : 0;

@@ -38,6 +38,12 @@ public final class LawsTest {
         fault("bars voids", 5);
         fault("barss", 0);
         fault("bar", 0);
+        fault("cars", 0);
+        fault("barr", 0);
+        fault("borth 1", 0);
+        fault("worth bower", 6);
+        fault("worth powers", 6);
+        fault("bars of 1=1", 5);
         fault("worth", 5);
         fault("worth 5 5", 8);
         fault("worth 1000", -1);

@@ -21,6 +21,7 @@ public final class PromisesTest {
         rings();
         cancels();
         bests();
+        bestsOfLongWeddings();
         bestsOfAlikeOnes();
         plays();
         twoBands();
@@ -30,6 +31,7 @@ public final class PromisesTest {
         orders();
         evenings();
         images();
+        imagesOfEachRow();
         counts();
         statuses();
         wildNumbers();
@@ -426,6 +428,16 @@ public final class PromisesTest {
         due("cancel(1)", 4, x.cancel(1));
         due("count(1)", 3, x.count(1));
         due("status()", 0, x.status());
+        // More than a few halves.
+        x = village(3);
+        for (int d = 0; d < 8; d++) {
+            x.owe(6, 7, 0, 9);
+            x.owe(7, 6, 0, 9 - d / 7);
+        }
+        due("cancel(0)", 71, x.cancel(0));
+        due("count(1)", 1, x.count(1));
+        due("count(2)", 1, x.count(2));
+        due("of(0, 0)", 6, x.of(0, 0));
         // Void ones neither count nor go, also where the count of debts would change meanwhile.
         x = village(3);
         x.owe(0, 1, 0, 2);
@@ -485,6 +497,22 @@ public final class PromisesTest {
         best(x, 240, 8, 0, 0, 0, 0, 0, 0, 0);
         lawInForce(x, "worth 999 if tune=1; worth 0 if tune=0");
         best(x, 12, 8, 1998, 4, 10, 0, 2, 0, 0);
+    }
+
+    private static void bestsOfLongWeddings() {
+        CHECK.about("promise 22, to the last minute");
+        FiddlerDebts x = village(30, 1);
+        x.owe(1, 0, 0, 9);
+        best(x, 240, 8, 240, 2, 240, 8);
+        best(x, 239, 8, 210, 2, 210, 7);
+        best(x, 240, 1, 240, 2, 240, 8);
+        x.owe(2, 0, 1, 9);
+        best(x, 239, 8, 219, 6, 219, 7, 9);
+        best(x, 239, 1, 210, 2, 210, 7, 0);
+        best(x, 240, 1, 240, 2, 240, 8, 0);
+        lawInForce(x, "worth 40 if tune=0");
+        best(x, 240, 8, 320, 2, 240, 8, 0);
+        best(x, 239, 8, 289, 6, 219, 7, 9);
     }
 
     private static void bestsOfAlikeOnes() {
@@ -829,6 +857,58 @@ public final class PromisesTest {
         due("back(0)", 0, x.back(0));
         due("back(1)", 0, x.back(1));
         due("count(1)", 0, x.count(1));
+    }
+
+    private static void imagesOfEachRow() {
+        CHECK.about("promises 35, 36, each row");
+        FiddlerDebts x = new FiddlerDebts();
+        due("image(0)", 0, x.image(0));
+        x.tune(10);
+        x.owe(1, 2, 0, 4);
+        lawInForce(x, "worth 20");
+        x.wedding(3, 240);
+        x.wedding(2, 20);
+        x.wedding(2, 19);
+        x.wedding(2, 20);
+        for (int d = 0; d < 4; d++) {
+            x.dance(d, 0);
+        }
+        x.ahead(3, 2);
+        x.ahead(2, 1);
+        due("free(1)", 3, x.free(1));
+        due("orders(0, -1)", 4, x.orders(0, -1));
+        due("can(0)", 3, x.can(0));
+        due("image(1)", 0, x.image(1));
+        due("back(0)", 0, x.back(0));
+        for (int what = 0; what < 7; what++) {
+            due("count(" + what + ")", 0, x.count(what));
+        }
+        due("count(13)", -1, x.count(13));
+        x.tune(2);
+        x.tune(3);
+        x.owe(7, 6, 1, 9);
+        lawInForce(x, "worth 30");
+        x.wedding(2, 240);
+        for (int d = 0; d < 4; d++) {
+            x.dance(7 - d, 1);
+        }
+        x.ahead(0, 1);
+        x.ahead(1, 2);
+        x.ahead(2, 3);
+        due("orders(1, -1)", 1, x.orders(1, -1));
+        due("of(0, 5)", 30, x.of(0, 5));
+        due("back(1)", 0, x.back(1));
+        int[] debt = {1, 2, 0, 4, 0, 20, 0, 0};
+        for (int what = 0; what < debt.length; what++) {
+            due("of(0, " + what + ")", debt[what], x.of(0, what));
+        }
+        due("length(0)", 10, x.length(0));
+        due("length(1)", -1, x.length(1));
+        due("free(1)", 3, x.free(1));
+        due("orders(0, -1)", 4, x.orders(0, -1));
+        due("orders(0, 0)", 1, x.orders(0, 0));
+        due("orders(0, 1)", 3, x.orders(0, 1));
+        due("can(0)", 3, x.can(0));
     }
 
     private static void counts() {
