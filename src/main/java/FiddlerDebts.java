@@ -601,8 +601,11 @@ public final class FiddlerDebts {
         }
 
         private int lengthOfDebt(int debt) {
-            int tune = debts.has(debt) ? debts.tunes[debt] : NONE;
-            return hasTune(tune) ? lengths[tune] : 0;
+            if (debt < 0 || debt >= debts.size || debt >= MOST_DEBTS) {
+                return 0;
+            }
+            int tune = debts.tunes[debt];
+            return tune >= 0 && tune < tunes && tune < MOST_TUNES ? lengths[tune] : 0;
         }
     }
 
