@@ -116,7 +116,7 @@ public final class FiddlerDebts {
     }
 
     public int pay(int debt, int halves) {
-        if (halves < 1) {
+        if (halves < 1 || halves > MOST_HALVES) {
             return refuse(BAD_NUMBER);
         }
         Debts debts = village.debts;
@@ -1544,7 +1544,7 @@ public final class FiddlerDebts {
             int rest = within;
             for (int debt = 0; debt < debts.size && debt < MOST_DEBTS; debt++) {
                 int takes = village.lengthOfDebt(debt);
-                if (debts.creditors[debt] == at && takes > 0) {
+                if (debts.creditors[debt] == at && !judge.barred[debt] && takes > 0) {
                     int many = Math.min(halves[debt], rest / takes);
                     halves[debt] -= many;
                     rest -= many * takes;

@@ -148,6 +148,13 @@ public final class PromisesTest {
         due("pay(-1, 1)", -2, x.pay(-1, 1));
         due("pay(0, 6)", -1, x.pay(0, 6));
         due("pay(0, MAX)", -1, x.pay(0, Integer.MAX_VALUE));
+        due("pay(0, 9)", -1, x.pay(0, 9));
+        due("pay(3, 9)", -2, x.pay(3, 9));
+        // More than nine can't be, whatever debts there are.
+        due("pay(3, 10)", -1, x.pay(3, 10));
+        due("pay(-1, 10)", -1, x.pay(-1, 10));
+        due("pay(3, 0)", -1, x.pay(3, 0));
+        due("count(9)", 3, x.count(9));
         due("pay(1, 2)", 4, x.pay(1, 2));
         due("of(1, 3)", 4, x.of(1, 3));
         due("pay(1, 4)", 0, x.pay(1, 4));
@@ -675,6 +682,31 @@ public final class PromisesTest {
         due("free(1)", 1, x.free(1));
         lawInForce(x, "voids");
         due("free(1)", -1, x.free(1));
+        freeOfBarredOnes();
+    }
+
+    private static void freeOfBarredOnes() {
+        FiddlerDebts x = village(10, 3);
+        x.owe(1, 0, 0, 2);
+        x.owe(1, 0, 1, 3);
+        x.owe(2, 0, 1, 1);
+        x.wedding(0, 240);
+        due("free(1)", 0, x.free(1));
+        lawInForce(x, "bars if tune=0");
+        due("free(1), barred from one of two", 100, x.free(1));
+        due("free(2), barred from none", 0, x.free(2));
+        lawInForce(x, "bars");
+        due("free(2), barred from all", 100, x.free(2));
+        due("free(0), who owes none", -1, x.free(0));
+        x.divorce();
+        due("free(2), without weddings", 100, x.free(2));
+        lawInForce(x, "bars if tune=0; voids if tune=0");
+        x.wedding(0, 8);
+        x.wedding(0, 1);
+        x.wedding(0, 3);
+        due("free(1), the barred one being void", 2, x.free(1));
+        lawInForce(x, "bars; voids");
+        due("free(1), all barred and void", -1, x.free(1));
     }
 
     private static void dances() {

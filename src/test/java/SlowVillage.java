@@ -168,7 +168,7 @@ final class SlowVillage {
     }
 
     int pay(int debt, int halves) {
-        if (halves < 1) {
+        if (!in(halves, 1, 9)) {
             return no(-1);
         }
         if (!isDebt(debt)) {
@@ -588,6 +588,10 @@ final class SlowVillage {
         List<Debt> his = new ArrayList<>(s.debts.stream().filter(d -> d.ower() == dancer && !isVoid(d)).toList());
         if (his.isEmpty()) {
             return NONE;
+        }
+        // He may not play a barred one, so it stays, whatever weddings come.
+        if (his.stream().anyMatch(this::isBarred)) {
+            return 100;
         }
         for (int w = 0; w < s.weddings.size(); w++) {
             int minutes = s.weddings.get(w).b();
