@@ -182,6 +182,8 @@ public final class LawsTest {
         worth("worth 100+age/3", 98);
         worth("worth 100+7/age", 100);
         worth("worth 1;worth 2", 2);
+        worth(many("bars;", 11) + "worth 3", 3);
+        worth("worth 3" + many(";bars", 11), 3);
         worth("worth 1;worth 2 if 1=2", 1);
         worth("worth 1 if 1=2", 7);
         worth("worth 3 if not 1=2", 3);
