@@ -52,8 +52,10 @@ public final class EdgesTest {
 
     private static void room() {
         tunesSixAtMost();
+        noDebt();
         debtsSixteenAtMost();
         debtsGoAndThoseBehindMoveUp();
+        debtsThatMovedUpAreThereOnce();
         eveningIsZeroAtFirst();
         lawsSixAtMost();
         noLawIsInForceAtFirst();
@@ -70,6 +72,17 @@ public final class EdgesTest {
         due("length(6)", NONE, x.length(6));
         due("owe of the last", 0, x.owe(0, 1, 5, 1));
         due("owe of one behind it", -2, x.owe(0, 1, 6, 1));
+    }
+
+    private static void noDebt() {
+        CHECK.about("of: NONE of what is not there");
+        for (int debt : n(-1, 0, 15, 16)) {
+            debt(Villages.of(1), debt, NONE, NONE, NONE, NONE, NONE, NONE, NONE, NONE);
+        }
+        FiddlerDebts x = Villages.full();
+        debt(x, -1, NONE, NONE, NONE, NONE, NONE, NONE, NONE, NONE);
+        debt(x, 15, 7, 0, 0, 9, 999, 7, 0, 0);
+        debt(x, 16, NONE, NONE, NONE, NONE, NONE, NONE, NONE, NONE);
     }
 
     private static void debtsSixteenAtMost() {
@@ -97,13 +110,19 @@ public final class EdgesTest {
 
     private static void debtsGoAndThoseBehindMoveUp() {
         CHECK.about("pay: how many are left (0: it goes, those behind it move up)");
-        FiddlerDebts x = village(n(1, 2), n(0, 1, 0, 1), n(2, 3, 1, 9), n(4, 5, 0, 3));
+        FiddlerDebts x = village(n(1, 2), n(0, 1, 0, 1));
+        x.terms(0, 7);
+        x.owe(2, 3, 1, 9);
+        x.terms(0, 8);
+        x.owe(4, 5, 0, 3);
         due("pay of the last", 0, x.pay(2, 3));
         due("count(1)", 2, x.count(1));
-        debt(x, 0, 0, 1, 0, 1);
-        debt(x, 1, 2, 3, 1, 9);
+        debt(x, 0, 0, 1, 0, 1, 0, 1, 0, 0);
+        debt(x, 1, 2, 3, 1, 9, 7, 2, 0, 0);
+        debt(x, 2, NONE, NONE, NONE, NONE, NONE, NONE, NONE, NONE);
         due("pay of the first", 0, x.pay(0, 1));
-        debt(x, 0, 2, 3, 1, 9);
+        debt(x, 0, 2, 3, 1, 9, 7, 2, 0, 0);
+        debt(x, 1, NONE, NONE, NONE, NONE, NONE, NONE, NONE, NONE);
         due("all but one half", 1, x.pay(0, 8));
         due("of(0, 3)", 1, x.of(0, 3));
         due("pay of the only one", 0, x.pay(0, 1));
@@ -118,6 +137,39 @@ public final class EdgesTest {
         due("of all that are left", 2, x.funeral(2));
         due("without debts", 0, x.funeral(2));
         due("owe, the numbers begin anew", 0, x.owe(5, 6, 0, 1));
+    }
+
+    /** Where the last one stood behind there is nothing now. */
+    private static void debtsThatMovedUpAreThereOnce() {
+        CHECK.about("those behind move up, and are there once");
+        FiddlerDebts x = village(n(2), n(2, 3, 0, 1), n(0, 1, 0, 4), n(1, 0, 0, 9));
+        x.wedding(1, 8);
+        x.wedding(0, 18);
+        due("pay(0, 1)", 0, x.pay(0, 1));
+        due("count(1)", 2, x.count(1));
+        due("count(2)", 13, x.count(2));
+        due("balance(0)", 10, x.balance(0));
+        due("balance(1)", -10, x.balance(1));
+        due("net(0, 0)", 5, x.net(0, 0));
+        left(x, 0, 13, 5, 1);
+        due("free(0)", 0, x.free(0));
+        due("free(1)", 1, x.free(1));
+        bands(x, 18, 0);
+        best(x, 240, 8, 18, 2, 18, 0, 9, NONE);
+        due("evenings(1000000, 1), where 4, 2, 4, 5 and 3 dance and 1 can take none", 5, x.evenings(1000000, 1));
+        owed(x, 1, 9, 1);
+        owed(x, 3, 4, 1);
+        Villages.force(x, "worth debts");
+        due("of(1, 5), how many he has", 1, x.of(1, 5));
+        due("cancel(0)", 4, x.cancel(0));
+        due("count(1)", 1, x.count(1));
+        due("balance(0)", 5, x.balance(0));
+        due("net(1, 0)", -5, x.net(1, 0));
+        due("funeral(0)", 5, x.funeral(0));
+        due("balance(0), where none is left", 0, x.balance(0));
+        left(x, 0, 0, 0, 0);
+        ring(x);
+        due("free(1)", NONE, x.free(1));
     }
 
     private static void eveningIsZeroAtFirst() {
@@ -197,11 +249,37 @@ public final class EdgesTest {
         due("end(4), its first four alone", 4, x.end(4));
         due("end(5)", NONE, x.end(5));
         due("law()", 0, x.law());
+        theFirstBytesAlone();
         CHECK.about("feed: four of each number, the highest first");
         due("feed", 20, x.feed(0x62617273, 0x3be02020, -1, Integer.MIN_VALUE, Integer.MAX_VALUE));
         due("end(6)", 6, x.end(6));
         due("law()", -6, x.law());
         due("fault() at a byte above 127", 5, x.fault());
+    }
+
+    /** What once stood behind them is gone, whatever would go on there. */
+    private static void theFirstBytesAlone() {
+        CHECK.about("end: the TAPE has its first n bytes alone");
+        FiddlerDebts x = village(n(1), n(0, 1, 0, 1));
+        Tapes.put(x, "barsvoids");
+        x.end(4);
+        due("law(), where letters stood behind", 0, x.law());
+        Tapes.put(x, "worth 123");
+        x.end(8);
+        due("law(), where a digit stood behind", 1, x.law());
+        x.force(1);
+        due("of(0, 5)", 12, x.of(0, 5));
+        Tapes.put(x, "bars    ");
+        x.end(5);
+        due("law(), where blanks stood behind", 2, x.law());
+        Tapes.put(x, "worth    ");
+        x.end(7);
+        due("law()", -6, x.law());
+        due("fault() at the end", 7, x.fault());
+        Tapes.put(x, 0, 1, 0, 1, 2, 3, 0, 1);
+        x.end(7);
+        due("row(), where the last byte stood behind", 1, x.row());
+        due("sung()", 1, x.sung());
     }
 
     // Term III.
@@ -233,6 +311,11 @@ public final class EdgesTest {
         due("richest()", 0, x.richest());
         CHECK.about("RICHEST: the greatest BALANCE, the lowest DANCER");
         due("richest() of none", 0, new FiddlerDebts().richest());
+        for (int d = 0; d < 8; d++) {
+            due("richest(), whom alone is owed", d, village(n(2), n((d + 3) % 8, d, 0, 1)).richest());
+        }
+        due("richest() of 0 and 1, 0 the richer", 0, village(n(2), n(2, 0, 0, 5), n(2, 1, 0, 3)).richest());
+        due("richest() of 0 and 1, 1 the richer", 1, village(n(2), n(2, 0, 0, 3), n(2, 1, 0, 5)).richest());
         x = village(n(2), n(0, 6, 0, 2), n(1, 7, 0, 2), n(2, 5, 0, 1));
         due("richest() of 6 and 7", 6, x.richest());
         x.owe(2, 5, 0, 1);
@@ -285,6 +368,8 @@ public final class EdgesTest {
         left(x, 0, 7, 7, 7);
         x = village(n(1), n(0, 1, 0, 1), n(2, 3, 0, 1), n(4, 5, 0, 1), n(6, 7, 0, 1));
         left(x, 0, 4, 4, 4);
+        left(village(n(1), n(0, 2, 0, 1), n(1, 2, 0, 1)), 0, 2, 2, 2);
+        left(village(n(1), n(2, 0, 0, 1), n(2, 1, 0, 1)), 0, 2, 2, 2);
         // 0 owes 3 and 1 owes 4; 5 is owed 4 and 6 is owed 3: two, though 3 debts are owed.
         x = village(n(1), n(0, 5, 0, 3), n(1, 5, 0, 1), n(1, 6, 0, 3));
         left(x, 0, 7, 7, 2);
@@ -322,6 +407,13 @@ public final class EdgesTest {
         ring(x, 0, 3, 6, 1, 4, 7, 2, 5);
         x.pay(7, 1);
         ring(x);
+        CHECK.about("a RING of what is owed now, whatever was owed before");
+        x = village(n(1), n(0, 1, 0, 1), n(1, 0, 0, 1));
+        ring(x, 0, 1);
+        x.pay(1, 1);
+        ring(x);
+        Villages.owe(x, n(1, 2, 0, 1), n(2, 0, 0, 1));
+        ring(x, 0, 1, 2);
         CHECK.about("a RING: (not VOID)");
         x = village(n(1), n(0, 1, 0, 1), n(1, 0, 0, 2), n(2, 3, 0, 1), n(3, 2, 0, 1));
         Villages.force(x, "bars");
@@ -367,6 +459,15 @@ public final class EdgesTest {
         }
         due("cancel(0), the most halves", 72, x.cancel(0));
         due("count(1)", 0, x.count(1));
+        CHECK.about("it CANCELS: what is not of the RING stays");
+        x = village(n(1), n(3, 0, 0, 1), n(0, 1, 0, 9), n(1, 2, 0, 9), n(2, 3, 0, 9));
+        ring(x, 0, 1, 2, 3);
+        x.pay(0, 1);
+        Villages.owe(x, n(0, 3, 0, 9), n(1, 0, 0, 9), n(0, 2, 0, 9));
+        due("cancel(0)", 9, x.cancel(0));
+        due("count(1)", 4, x.count(1));
+        debt(x, 2, 0, 3, 0, 9);
+        debt(x, 3, 0, 2, 0, 9);
         x = village(n(1), n(0, 1, 0, 9), n(0, 1, 0, 1), n(1, 0, 0, 9));
         due("cancel(0), the least being one debt whole", 9, x.cancel(0));
         debt(x, 0, 0, 1, 0, 1);
@@ -437,8 +538,25 @@ public final class EdgesTest {
         FiddlerDebts x = village(n(5), n(1, 0, 0, 1), n(2, 0, 0, 1), n(7, 0, 0, 2));
         best(x, 10, 8, 10, 128, 10, 0, 0, 2);
         best(x, 15, 8, 15, 130, 15, 1, 0, 2);
+        // Worth comes first: all seven for one half more.
+        x = Villages.of(1);
+        for (int d = 1; d < 8; d++) {
+            x.owe(d, 0, 0, 1);
+        }
+        best(x, 6, 8, 6, 126, 6, 1, 1, 1, 1, 1, 1, 0);
+        best(x, 7, 8, 7, 254, 7, 1, 1, 1, 1, 1, 1, 1);
+        // 6 and 7 are two, though 1, 2 and 3 are far lower as bits.
+        x = village(n(7, 4, 5, 3), n(6, 0, 0, 1), n(7, 0, 1, 1), n(1, 0, 2, 1), n(2, 0, 3, 1), n(3, 0, 3, 1));
+        best(x, 11, 8, 11, 192, 11, 1, 1, 0, 0, 0);
         CHECK.about("of alike ones, then the lowest as bits");
-        best(x, 5, 8, 5, 2, 5, 1, 0, 0);
+        best(village(n(5), n(7, 0, 0, 1), n(1, 0, 0, 1), n(2, 0, 0, 1)), 5, 8, 5, 2, 5, 0, 1, 0);
+        // The lowest though it takes 240 minutes and the next one 8.
+        x = village(n(30, 1), n(1, 7, 1, 8), n(0, 7, 0, 8));
+        Villages.force(x, "worth 1");
+        due("best(7, 240, 1, 1)", 1, x.best(7, 240, 1, 1));
+        due("best(7, 240, 1, 2)", 240, x.best(7, 240, 1, 2));
+        due("best(7, 239, 1, 1)", 2, x.best(7, 239, 1, 1));
+        due("best(7, 239, 1, 2)", 8, x.best(7, 239, 1, 2));
         // 1 and 3 are 10, 2 and 3 are 12, 3 and 4 are 24, though 4 and 5 stand ahead among the debts.
         x = village(n(5), n(5, 0, 0, 2), n(4, 0, 0, 1), n(3, 0, 0, 2), n(2, 0, 0, 1), n(1, 0, 0, 1));
         best(x, 15, 2, 15, 10, 15, 0, 0, 2, 0, 1);
@@ -460,6 +578,8 @@ public final class EdgesTest {
         best(x, 50, 8, 50, 2, 50, 0, 0, 1, 9);
         best(x, 60, 8, 60, 2, 60, 1, 0, 2, 9);
         best(x, 100, 8, 100, 2, 100, 9, 0, 2, 9);
+        x = village(n(3, 4, 5), n(1, 0, 0, 1), n(1, 0, 1, 2), n(1, 0, 2, 1));
+        best(x, 8, 8, 8, 2, 8, 0, 2, 0);
     }
 
     private static void playedOnes() {
@@ -570,10 +690,18 @@ public final class EdgesTest {
         free(x, 100, n(0, 28), n(2, 3));
         free(x, 2, n(0, 28), n(2, 3), n(0, 3), n(0, 240));
         free(x, 2, n(1, 240), n(0, 240), n(2, 240));
+        for (int length : n(1, 30)) {
+            x = village(n(length), n(1, 0, 0, 8));
+            free(x, 1, n(0, 8 * length - 1), n(0, length));
+            free(x, 0, n(0, 8 * length), n(0, length));
+        }
+        x = village(n(10, 3), n(1, 0, 0, 2), n(1, 0, 1, 3), n(1, 2, 1, 1), n(3, 0, 0, 9));
+        x.wedding(0, 240);
+        x.wedding(2, 240);
         CHECK.about("FREE: (NONE as it is: no DEBTS; 100: never, all WEDDINGS)");
         due("free(0), to whom all is owed", NONE, x.free(0));
         due("free(7)", NONE, x.free(7));
-        due("free(3)", 1, x.free(3));
+        due("free(3)", 0, x.free(3));
         x.divorce();
         due("free(0), without weddings", NONE, x.free(0));
         due("free(3), without weddings", 100, x.free(3));
@@ -633,6 +761,7 @@ public final class EdgesTest {
         due("orders(0, 7)", 0, x.orders(0, 7));
         due("can(0)", 1, x.can(0));
         due("forget()", 10, x.forget());
+        due("can(0), all being forgotten", 0, x.can(0));
         due("forget() of none", 0, x.forget());
         due("count(6)", 0, x.count(6));
         due("dance, the first anew", 0, x.dance(0, 0));
@@ -653,10 +782,10 @@ public final class EdgesTest {
         }
         due("can(1) of no dances", 0, x.can(1));
         x.dance(7, 1);
+        due("can(1) of one", 128, x.can(1));
         due("orders(1, NONE) of one", 1, x.orders(1, NONE));
         due("orders(1, 7)", 1, x.orders(1, 7));
         due("orders(1, 0)", 0, x.orders(1, 0));
-        due("can(1)", 128, x.can(1));
         due("orders(0, NONE) of the other tune", 1, x.orders(0, NONE));
         due("can(0)", 0, x.can(0));
         x.dance(7, 1);
@@ -891,7 +1020,48 @@ public final class EdgesTest {
         due("back(0)", 0, x.back(0));
         due("of(0, 3)", 5, x.of(0, 3));
         imagesOfFullAndEmpty();
+        imagesOfWhatWasOverwritten();
         whatImagesDoNotKeep();
+    }
+
+    private static void imagesOfWhatWasOverwritten() {
+        CHECK.about("back: all that it keeps is as it was then, though all was overwritten since");
+        FiddlerDebts untouched = new FiddlerDebts();
+        Villages.fillHalf(untouched);
+        untouched.image(0);
+        untouched.image(1);
+        FiddlerDebts x = new FiddlerDebts();
+        x.image(1);
+        Villages.fillHalf(x);
+        x.image(0);
+        x.back(1);
+        Villages.fill(x);
+        x.end(0);
+        x.back(0);
+        x.image(1);
+        CHECK.same("the half full one", Portrait.of(untouched), Portrait.of(x));
+        untouched = Villages.full();
+        untouched.end(0);
+        untouched.evenings(7, 2);
+        untouched.image(0);
+        untouched.image(1);
+        x = new FiddlerDebts();
+        x.image(0);
+        Villages.fill(x);
+        x.end(0);
+        x.evenings(7, 2);
+        x.image(1);
+        x.back(0);
+        x.tune(17);
+        Villages.owe(x, n(4, 2, 0, 1), n(5, 2, 0, 1));
+        Villages.force(x, "voids");
+        x.wedding(5, 1);
+        x.dance(5, 0);
+        x.dance(5, 0);
+        x.ahead(1, 0);
+        x.back(1);
+        x.image(0);
+        CHECK.same("the full one", Portrait.of(untouched), Portrait.of(x));
     }
 
     private static void imagesOfFullAndEmpty() {

@@ -123,8 +123,24 @@ public final class LawsTest {
         fault("worth 5" + many(" ", 393), -1);
         fault("worth 5" + many(" ", 392) + "?", 399);
         fault(many("a", 400), 0);
+        limitsAreOfEachLaw();
         fault("worth " + many("0", 394), -1);
         fault("worth " + many("9", 394), 6);
+    }
+
+    /** What an earlier text had, read or refused, does not count for the next one. */
+    private static void limitsAreOfEachLaw() {
+        CHECK.about("one law behind another");
+        FiddlerDebts x = new FiddlerDebts();
+        String parts = "worth 1" + many("+1", 49);
+        String clauses = many("bars;", 11) + "bars";
+        String brackets = "worth " + many("[", 8) + "1" + many("]", 8);
+        String[] texts = {parts, parts, clauses, clauses, brackets, brackets};
+        for (int law = 0; law < texts.length; law++) {
+            CHECK.due("law() of one too many", -6, Tapes.law(x, law < 2 ? parts + "+1" : clauses + ";bars"));
+            CHECK.due("law() \"" + texts[law] + "\"", law, Tapes.law(x, texts[law]));
+            CHECK.due("fault()", -1, x.fault());
+        }
     }
 
     private static void bytesThatAreNoToken() {
@@ -181,6 +197,13 @@ public final class LawsTest {
         worth("worth 100-[0-7]/2", 103);
         worth("worth 100+age/3", 98);
         worth("worth 100+7/age", 100);
+        // Cut towards 0 whichever of the two is below it.
+        worth("worth 100+7/2", 103);
+        worth("worth 100+[0-7]/2", 97);
+        worth("worth 100+7/[0-2]", 97);
+        worth("worth 100+[0-7]/[0-2]", 103);
+        worth("worth 100+7/[0-1]", 93);
+        worth("worth 100+[0-1]/2", 100);
         worth("worth 1;worth 2", 2);
         worth(many("bars;", 11) + "worth 3", 3);
         worth("worth 3" + many(";bars", 11), 3);

@@ -42,20 +42,6 @@ public final class PromisesTest {
         CHECK.due(call, want, got);
     }
 
-    private static FiddlerDebts village(int... lengths) {
-        FiddlerDebts x = new FiddlerDebts();
-        for (int length : lengths) {
-            x.tune(length);
-        }
-        return x;
-    }
-
-    private static void lawInForce(FiddlerDebts x, String text) {
-        int law = Tapes.law(x, text);
-        due("law()", x.count(3) - 1, law);
-        x.force(law);
-    }
-
     private static void newObject() {
         CHECK.about("promise 1");
         FiddlerDebts x = new FiddlerDebts();
@@ -98,7 +84,7 @@ public final class PromisesTest {
 
     private static void owing() {
         CHECK.about("promises 4, 5");
-        FiddlerDebts x = village(4, 9);
+        FiddlerDebts x = Villages.of(4, 9);
         x.terms(0, 33);
         due("owe(-1, 1, 0, 1)", -1, x.owe(-1, 1, 0, 1));
         due("owe(8, 1, 0, 1)", -1, x.owe(8, 1, 0, 1));
@@ -123,7 +109,7 @@ public final class PromisesTest {
         due("of(0, -1)", -1, x.of(0, -1));
         due("of(2, 0)", -1, x.of(2, 0));
         due("of(-1, 0)", -1, x.of(-1, 0));
-        lawInForce(x, "worth 5;voids if ower=0;bars if ower=7");
+        Villages.force(x, "worth 5;voids if ower=0;bars if ower=7");
         due("of(0, 5)", 5, x.of(0, 5));
         due("of(0, 6)", 0, x.of(0, 6));
         due("of(0, 7)", 1, x.of(0, 7));
@@ -138,7 +124,7 @@ public final class PromisesTest {
 
     private static void paying() {
         CHECK.about("promise 6");
-        FiddlerDebts x = village(4);
+        FiddlerDebts x = Villages.of(4);
         x.owe(0, 1, 0, 5);
         x.owe(2, 3, 0, 6);
         x.owe(4, 5, 0, 7);
@@ -169,12 +155,12 @@ public final class PromisesTest {
 
     private static void funerals() {
         CHECK.about("promise 7");
-        FiddlerDebts x = village(4);
+        FiddlerDebts x = Villages.of(4);
         x.owe(0, 1, 0, 5);
         x.owe(2, 3, 0, 6);
         x.owe(1, 5, 0, 7);
         x.owe(3, 4, 0, 2);
-        lawInForce(x, "voids if ower=0");
+        Villages.force(x, "voids if ower=0");
         due("funeral(-1)", -1, x.funeral(-1));
         due("funeral(8)", -1, x.funeral(8));
         due("funeral(7)", 0, x.funeral(7));
@@ -189,7 +175,7 @@ public final class PromisesTest {
 
     private static void terms() {
         CHECK.about("promise 8");
-        FiddlerDebts x = village(4);
+        FiddlerDebts x = Villages.of(4);
         due("terms(0, 999)", 0, x.terms(0, 999));
         due("terms(0, 1000)", -1, x.terms(0, 1000));
         due("terms(0, -1)", -1, x.terms(0, -1));
@@ -202,7 +188,7 @@ public final class PromisesTest {
 
     private static void tape() {
         CHECK.about("promises 9, 10");
-        FiddlerDebts x = village(4);
+        FiddlerDebts x = Villages.of(4);
         for (int i = 1; i <= 20; i++) {
             due("feed", 20 * i, x.feed(i, -1, 0, i, i));
         }
@@ -233,7 +219,7 @@ public final class PromisesTest {
 
     private static void rows() {
         CHECK.about("promises 11, 12");
-        FiddlerDebts x = village(4, 5);
+        FiddlerDebts x = Villages.of(4, 5);
         due("row()", -6, x.row());
         due("sung()", 0, x.sung());
         x.terms(0, 12);
@@ -269,7 +255,7 @@ public final class PromisesTest {
 
     private static void laws() {
         CHECK.about("promises 13, 14, 15");
-        FiddlerDebts x = village(4);
+        FiddlerDebts x = Villages.of(4);
         x.owe(0, 1, 0, 3);
         due("law()", -6, x.law());
         due("fault()", 0, x.fault());
@@ -298,7 +284,7 @@ public final class PromisesTest {
 
     private static void balances() {
         CHECK.about("promises 16, 17");
-        FiddlerDebts x = village(3, 10);
+        FiddlerDebts x = Villages.of(3, 10);
         x.owe(0, 6, 0, 4);
         x.owe(0, 5, 1, 2);
         x.owe(5, 6, 1, 1);
@@ -309,14 +295,14 @@ public final class PromisesTest {
         due("balance(8)", NOTHING, x.balance(8));
         due("balance(-1)", NOTHING, x.balance(-1));
         due("richest()", 6, x.richest());
-        lawInForce(x, "voids if creditor=6;bars");
+        Villages.force(x, "voids if creditor=6;bars");
         due("balance(6)", 0, x.balance(6));
         due("balance(5)", 20, x.balance(5));
         due("richest()", 5, x.richest());
-        lawInForce(x, "worth 999");
+        Villages.force(x, "worth 999");
         due("balance(0)", -5994, x.balance(0));
         due("balance(6)", 4995, x.balance(6));
-        lawInForce(x, "worth 5 if tune=0;worth 10 if ower=0 and creditor=5;worth 0 if ower=5");
+        Villages.force(x, "worth 5 if tune=0;worth 10 if ower=0 and creditor=5;worth 0 if ower=5");
         due("balance(6)", 20, x.balance(6));
         due("balance(5)", 20, x.balance(5));
         due("richest() of two alike", 5, x.richest());
@@ -324,7 +310,7 @@ public final class PromisesTest {
 
     private static void nets() {
         CHECK.about("promises 18, 19");
-        FiddlerDebts x = village(3, 10);
+        FiddlerDebts x = Villages.of(3, 10);
         int[][] debts = {{0, 1, 5}, {1, 2, 5}, {3, 4, 2}, {4, 3, 2}, {5, 6, 3}, {7, 6, 1}};
         for (int[] d : debts) {
             x.owe(d[0], d[1], 0, d[2]);
@@ -346,12 +332,12 @@ public final class PromisesTest {
         due("left(0, -1)", -1, x.left(0, -1));
         due("left(2, 0)", -1, x.left(2, 0));
         due("left(-1, 0)", -1, x.left(-1, 0));
-        lawInForce(x, "voids if ower=7;bars");
+        Villages.force(x, "voids if ower=7;bars");
         due("net(6, 0)", 3, x.net(6, 0));
         due("left(0, 0)", 17, x.left(0, 0));
         due("left(0, 2)", 2, x.left(0, 2));
         // 2, 5, -7 and 4, 4, -3, -5: two groups, though the greatest first would need six payments.
-        x = village(1);
+        x = Villages.of(1);
         int[] owed = {7, 3, 5};
         x.owe(0, 1, 0, 2);
         x.owe(0, 2, 0, 5);
@@ -363,12 +349,12 @@ public final class PromisesTest {
         due("net(4, 0)", -owed[2], x.net(4, 0));
         due("left(0, 1)", 15, x.left(0, 1));
         due("left(0, 2)", 5, x.left(0, 2));
-        due("left of no debts", 0, village(1).left(0, 2));
+        due("left of no debts", 0, Villages.of(1).left(0, 2));
     }
 
     private static void rings() {
         CHECK.about("promise 20");
-        FiddlerDebts x = village(3, 10);
+        FiddlerDebts x = Villages.of(3, 10);
         for (int i = 0; i < 8; i++) {
             x.owe(i, (i + 5) % 8, 0, 1);
         }
@@ -397,11 +383,11 @@ public final class PromisesTest {
         due("ring(0, -1)", 2, x.ring(0, -1));
         due("ring(0, 0)", 0, x.ring(0, 0));
         due("ring(0, 1)", 5, x.ring(0, 1));
-        lawInForce(x, "voids if ower=0 and creditor=5; bars");
+        Villages.force(x, "voids if ower=0 and creditor=5; bars");
         due("ring(0, -1)", 3, x.ring(0, -1));
         due("ring(0, 0)", 1, x.ring(0, 0));
         // The lowest as bits is not the one of the lowest dancer.
-        x = village(1);
+        x = Villages.of(1);
         x.owe(0, 7, 0, 1);
         x.owe(7, 0, 0, 1);
         x.owe(3, 4, 0, 1);
@@ -412,7 +398,7 @@ public final class PromisesTest {
 
     private static void cancels() {
         CHECK.about("promise 21");
-        FiddlerDebts x = village(3, 10);
+        FiddlerDebts x = Villages.of(3, 10);
         due("cancel(2)", -2, x.cancel(2));
         due("cancel(-1)", -2, x.cancel(-1));
         due("cancel(0)", -3, x.cancel(0));
@@ -436,7 +422,7 @@ public final class PromisesTest {
         due("count(1)", 3, x.count(1));
         due("status()", 0, x.status());
         // More than a few halves.
-        x = village(3);
+        x = Villages.of(3);
         for (int d = 0; d < 8; d++) {
             x.owe(6, 7, 0, 9);
             x.owe(7, 6, 0, 9 - d / 7);
@@ -446,22 +432,22 @@ public final class PromisesTest {
         due("count(2)", 1, x.count(2));
         due("of(0, 0)", 6, x.of(0, 0));
         // Void ones neither count nor go, also where the count of debts would change meanwhile.
-        x = village(3);
+        x = Villages.of(3);
         x.owe(0, 1, 0, 2);
         x.owe(0, 1, 0, 9);
         x.owe(1, 0, 0, 5);
         x.owe(1, 2, 0, 5);
         x.owe(1, 2, 0, 5);
-        lawInForce(x, "voids if halves=9");
+        Villages.force(x, "voids if halves=9");
         due("cancel(0)", 2, x.cancel(0));
         due("of(0, 3)", 9, x.of(0, 3));
         due("of(1, 3)", 3, x.of(1, 3));
         due("cancel(0)", -3, x.cancel(0));
-        x = village(3);
+        x = Villages.of(3);
         x.owe(0, 1, 0, 2);
         x.owe(0, 1, 0, 3);
         x.owe(1, 0, 0, 9);
-        lawInForce(x, "voids if halves<2");
+        Villages.force(x, "voids if halves<2");
         due("cancel(0)", 5, x.cancel(0));
         due("count(2)", 4, x.count(2));
     }
@@ -474,7 +460,7 @@ public final class PromisesTest {
 
     private static void bests() {
         CHECK.about("promise 22");
-        FiddlerDebts x = village(7, 5, 30);
+        FiddlerDebts x = Villages.of(7, 5, 30);
         x.owe(1, 0, 0, 3);
         x.owe(2, 0, 1, 2);
         x.owe(3, 0, 2, 1);
@@ -498,17 +484,17 @@ public final class PromisesTest {
         best(x, 24, 1, 21, 2, 21, 3, 0, 0, 0);
         best(x, 240, 1, 30, 8, 30, 0, 0, 1, 0);
         best(x, 240, 2, 51, 10, 51, 3, 0, 1, 0);
-        lawInForce(x, "worth 50 if tune=1; voids if tune=0; bars if ower=3");
+        Villages.force(x, "worth 50 if tune=1; voids if tune=0; bars if ower=3");
         best(x, 240, 8, 100, 4, 10, 0, 2, 0, 0);
-        lawInForce(x, "worth 0");
+        Villages.force(x, "worth 0");
         best(x, 240, 8, 0, 0, 0, 0, 0, 0, 0);
-        lawInForce(x, "worth 999 if tune=1; worth 0 if tune=0");
+        Villages.force(x, "worth 999 if tune=1; worth 0 if tune=0");
         best(x, 12, 8, 1998, 4, 10, 0, 2, 0, 0);
     }
 
     private static void bestsOfLongWeddings() {
         CHECK.about("promise 22, to the last minute");
-        FiddlerDebts x = village(30, 1);
+        FiddlerDebts x = Villages.of(30, 1);
         x.owe(1, 0, 0, 9);
         best(x, 240, 8, 240, 2, 240, 8);
         best(x, 239, 8, 210, 2, 210, 7);
@@ -517,7 +503,7 @@ public final class PromisesTest {
         best(x, 239, 8, 219, 6, 219, 7, 9);
         best(x, 239, 1, 210, 2, 210, 7, 0);
         best(x, 240, 1, 240, 2, 240, 8, 0);
-        lawInForce(x, "worth 40 if tune=0");
+        Villages.force(x, "worth 40 if tune=0");
         best(x, 240, 8, 320, 2, 240, 8, 0);
         best(x, 239, 8, 289, 6, 219, 7, 9);
     }
@@ -525,44 +511,44 @@ public final class PromisesTest {
     private static void bestsOfAlikeOnes() {
         CHECK.about("promise 22, of alike ones");
         // The fewest owers: 6 alone, though 1 and 2 are lower and as worthy.
-        FiddlerDebts x = village(5);
+        FiddlerDebts x = Villages.of(5);
         x.owe(1, 0, 0, 1);
         x.owe(2, 0, 0, 1);
         x.owe(6, 0, 0, 2);
         best(x, 10, 8, 10, 64, 10, 0, 0, 2);
         // The lowest as bits: 3 and 4 (24) before 1 and 5 (34).
-        x = village(5, 9);
+        x = Villages.of(5, 9);
         x.owe(5, 0, 0, 1);
         x.owe(4, 0, 0, 1);
         x.owe(3, 0, 1, 1);
         x.owe(1, 0, 1, 1);
-        lawInForce(x, "worth 5");
+        Villages.force(x, "worth 5");
         best(x, 14, 2, 10, 18, 14, 0, 1, 0, 1);
-        lawInForce(x, "worth 5 if tune=1; worth 4; worth 6 if ower=1 or ower=5");
+        Villages.force(x, "worth 5 if tune=1; worth 4; worth 6 if ower=1 or ower=5");
         best(x, 14, 2, 12, 34, 14, 1, 0, 0, 1);
-        lawInForce(x, "worth 4; worth 6 if ower=3 or ower=5; bars if ower=1");
+        Villages.force(x, "worth 4; worth 6 if ower=3 or ower=5; bars if ower=1");
         best(x, 14, 2, 12, 40, 14, 1, 0, 1, 0);
         // The lowest as bits ahead of the least minutes.
-        x = village(5, 9);
+        x = Villages.of(5, 9);
         x.owe(2, 0, 0, 1);
         x.owe(1, 0, 1, 1);
-        lawInForce(x, "worth 7");
+        Villages.force(x, "worth 7");
         best(x, 10, 8, 7, 2, 9, 0, 1);
         // The least minutes ahead of the first as a row.
-        x = village(5, 9);
+        x = Villages.of(5, 9);
         x.owe(2, 0, 0, 1);
         x.owe(2, 0, 1, 1);
-        lawInForce(x, "worth 7");
+        Villages.force(x, "worth 7");
         best(x, 10, 8, 7, 4, 5, 1, 0);
         // Fewer ahead.
-        x = village(5);
+        x = Villages.of(5);
         x.owe(2, 0, 0, 3);
         x.owe(2, 1, 0, 3);
         x.owe(2, 0, 0, 3);
         x.owe(2, 0, 0, 3);
         best(x, 24, 8, 20, 4, 20, 0, 0, 1, 3);
         // Sixteen debts of nine halves.
-        x = village(1);
+        x = Villages.of(1);
         for (int d = 0; d < 16; d++) {
             x.owe(1 + d % 7, 0, 0, 9);
         }
@@ -575,7 +561,7 @@ public final class PromisesTest {
 
     private static void plays() {
         CHECK.about("promise 23");
-        FiddlerDebts x = village(7, 5);
+        FiddlerDebts x = Villages.of(7, 5);
         x.owe(1, 0, 0, 3);
         x.owe(4, 5, 0, 8);
         x.owe(2, 0, 1, 2);
@@ -600,7 +586,7 @@ public final class PromisesTest {
 
     private static void twoBands() {
         CHECK.about("promise 24");
-        FiddlerDebts x = village(1, 10);
+        FiddlerDebts x = Villages.of(1, 10);
         int[] halves = {3, 1, 1, 2, 2, 1};
         for (int many : halves) {
             x.owe(1, 0, 0, many);
@@ -621,9 +607,9 @@ public final class PromisesTest {
         due("bands(-1, 0)", -1, x.bands(-1, 0));
         due("bands(0, 2)", -1, x.bands(0, 2));
         due("bands(0, -1)", -1, x.bands(0, -1));
-        lawInForce(x, "voids if tune=1; bars");
+        Villages.force(x, "voids if tune=1; bars");
         due("bands(0, 0)", 5, x.bands(0, 0));
-        x = village(30);
+        x = Villages.of(30);
         for (int d = 0; d < 16; d++) {
             x.owe(1, 0, 0, 9);
         }
@@ -633,7 +619,7 @@ public final class PromisesTest {
 
     private static void weddings() {
         CHECK.about("promises 25, 26");
-        FiddlerDebts x = village(1);
+        FiddlerDebts x = Villages.of(1);
         due("wedding(8, 1)", -1, x.wedding(8, 1));
         due("wedding(-1, 1)", -1, x.wedding(-1, 1));
         due("wedding(1, -1)", -1, x.wedding(1, -1));
@@ -653,7 +639,7 @@ public final class PromisesTest {
 
     private static void free() {
         CHECK.about("promise 27");
-        FiddlerDebts x = village(10, 3);
+        FiddlerDebts x = Villages.of(10, 3);
         x.owe(1, 0, 0, 2);
         x.owe(1, 0, 1, 3);
         x.owe(1, 2, 1, 1);
@@ -678,40 +664,40 @@ public final class PromisesTest {
         due("free(1)", 2, x.free(1));
         // Nothing was played indeed.
         due("count(2)", 6, x.count(2));
-        lawInForce(x, "voids if creditor=2");
+        Villages.force(x, "voids if creditor=2");
         due("free(1)", 1, x.free(1));
-        lawInForce(x, "voids");
+        Villages.force(x, "voids");
         due("free(1)", -1, x.free(1));
         freeOfBarredOnes();
     }
 
     private static void freeOfBarredOnes() {
-        FiddlerDebts x = village(10, 3);
+        FiddlerDebts x = Villages.of(10, 3);
         x.owe(1, 0, 0, 2);
         x.owe(1, 0, 1, 3);
         x.owe(2, 0, 1, 1);
         x.wedding(0, 240);
         due("free(1)", 0, x.free(1));
-        lawInForce(x, "bars if tune=0");
+        Villages.force(x, "bars if tune=0");
         due("free(1), barred from one of two", 100, x.free(1));
         due("free(2), barred from none", 0, x.free(2));
-        lawInForce(x, "bars");
+        Villages.force(x, "bars");
         due("free(2), barred from all", 100, x.free(2));
         due("free(0), who owes none", -1, x.free(0));
         x.divorce();
         due("free(2), without weddings", 100, x.free(2));
-        lawInForce(x, "bars if tune=0; voids if tune=0");
+        Villages.force(x, "bars if tune=0; voids if tune=0");
         x.wedding(0, 8);
         x.wedding(0, 1);
         x.wedding(0, 3);
         due("free(1), the barred one being void", 2, x.free(1));
-        lawInForce(x, "bars; voids");
+        Villages.force(x, "bars; voids");
         due("free(1), all barred and void", -1, x.free(1));
     }
 
     private static void dances() {
         CHECK.about("promises 28, 29, 30");
-        FiddlerDebts x = village(10, 3);
+        FiddlerDebts x = Villages.of(10, 3);
         due("dance(8, 0)", -1, x.dance(8, 0));
         due("dance(-1, 9)", -1, x.dance(-1, 9));
         due("dance(0, 2)", -2, x.dance(0, 2));
@@ -742,7 +728,7 @@ public final class PromisesTest {
 
     private static void orders() {
         CHECK.about("promises 31, 32");
-        FiddlerDebts x = village(10, 3);
+        FiddlerDebts x = Villages.of(10, 3);
         due("orders(0, -1)", 1, x.orders(0, -1));
         due("orders(2, -1)", -1, x.orders(2, -1));
         due("orders(-1, -1)", -1, x.orders(-1, -1));
@@ -809,7 +795,7 @@ public final class PromisesTest {
         x.owe(2, 1, 0, 3);
         x.owe(3, 6, 1, 4);
         x.owe(2, 3, 1, 9);
-        lawInForce(x, "voids; bars");
+        Villages.force(x, "voids; bars");
         due("evenings(0, 1)", 5, x.evenings(0, 1));
         int[] halves = {0, 13, 3, 0, 0, 2, 0, 0};
         int[] others = {0, 2, 1, 0, 0, 1, 0, 0};
@@ -826,14 +812,14 @@ public final class PromisesTest {
 
     private static void images() {
         CHECK.about("promises 35, 36");
-        FiddlerDebts x = village(10);
+        FiddlerDebts x = Villages.of(10);
         due("image(-1)", -1, x.image(-1));
         due("image(2)", -1, x.image(2));
         due("back(-1)", -1, x.back(-1));
         due("back(2)", -1, x.back(2));
         due("back(0)", -2, x.back(0));
         x.owe(1, 2, 0, 4);
-        lawInForce(x, "worth 20");
+        Villages.force(x, "worth 20");
         x.wedding(2, 80);
         x.dance(3, 0);
         x.dance(4, 0);
@@ -844,7 +830,7 @@ public final class PromisesTest {
         x.tune(20);
         x.pay(0, 1);
         x.owe(5, 6, 1, 1);
-        lawInForce(x, "worth 30");
+        Villages.force(x, "worth 30");
         x.divorce();
         x.forget();
         x.terms(0, 50);
@@ -870,7 +856,7 @@ public final class PromisesTest {
         due("owed(5, 0)", owed, x.owed(5, 0));
         x.end(0);
         // A law made now has the number of one that the other image keeps.
-        lawInForce(x, "worth 40");
+        Villages.force(x, "worth 40");
         due("of(0, 5)", 40, x.of(0, 5));
         due("back(0)", 0, x.back(0));
         due("count(1)", 3, x.count(1));
@@ -897,7 +883,7 @@ public final class PromisesTest {
         due("image(0)", 0, x.image(0));
         x.tune(10);
         x.owe(1, 2, 0, 4);
-        lawInForce(x, "worth 20");
+        Villages.force(x, "worth 20");
         x.wedding(3, 240);
         x.wedding(2, 20);
         x.wedding(2, 19);
@@ -919,7 +905,7 @@ public final class PromisesTest {
         x.tune(2);
         x.tune(3);
         x.owe(7, 6, 1, 9);
-        lawInForce(x, "worth 30");
+        Villages.force(x, "worth 30");
         x.wedding(2, 240);
         for (int d = 0; d < 4; d++) {
             x.dance(7 - d, 1);
@@ -945,10 +931,10 @@ public final class PromisesTest {
 
     private static void counts() {
         CHECK.about("promise 37");
-        FiddlerDebts x = village(10, 3);
+        FiddlerDebts x = Villages.of(10, 3);
         x.owe(0, 1, 0, 3);
         x.owe(0, 1, 0, 4);
-        lawInForce(x, "voids");
+        Villages.force(x, "voids");
         x.wedding(1, 1);
         x.dance(0, 0);
         x.dance(0, 0);
@@ -1022,7 +1008,7 @@ public final class PromisesTest {
 
     /** Two debts that make a ring, a law, two dances, an image. */
     private static FiddlerDebts ready() {
-        FiddlerDebts x = village(1);
+        FiddlerDebts x = Villages.of(1);
         x.owe(0, 1, 0, 2);
         x.owe(1, 0, 0, 2);
         Tapes.law(x, "worth 1");

@@ -78,7 +78,7 @@ public final class RefusalsTest {
                 int more = reason == -r.reason() ? 1 : 0;
                 CHECK.due("refused by -" + reason, before[reason] + more, after[reason]);
             }
-            same("what stands then", untouched, Portrait.of(x));
+            CHECK.same("what stands then", untouched, Portrait.of(x));
         }
     }
 
@@ -88,13 +88,6 @@ public final class RefusalsTest {
             many[reason] = COUNTED_AT[reason] < 0 ? 0 : x.count(COUNTED_AT[reason]);
         }
         return many;
-    }
-
-    private static void same(String what, List<String> want, List<String> got) {
-        CHECK.due(what + ", how many lines", want.size(), got.size());
-        for (int i = 0; i < Math.min(want.size(), got.size()); i++) {
-            CHECK.due(what + ", " + got.get(i) + " (due is " + want.get(i) + ")", 1, want.get(i).equals(got.get(i)) ? 1 : 0);
-        }
     }
 
     /** What only asks, feed, end, divorce and forget are never REFUSED, whatever they answer. */
@@ -118,7 +111,7 @@ public final class RefusalsTest {
             for (int reason = 1; reason <= 6; reason++) {
                 CHECK.due("refused by -" + reason, before[reason], after[reason]);
             }
-            same("what stands then", untouched, Portrait.of(x));
+            CHECK.same("what stands then", untouched, Portrait.of(x));
         }
     }
 

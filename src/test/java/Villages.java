@@ -29,9 +29,30 @@ final class Villages {
         }
     }
 
-    /** Some of all there can be and room for more: each TUNE has a RING, each DANCER owes, no HOST is without OWERS. */
+    /** Some of all there can be and room for more; also IMAGES, and a DEBT that came since. */
     static FiddlerDebts halfFull() {
-        FiddlerDebts x = of(2, 30, 1);
+        FiddlerDebts x = new FiddlerDebts();
+        fillHalf(x);
+        x.image(0);
+        x.pay(0, 1);
+        x.image(1);
+        x.owe(0, 1, 0, 1);
+        Tapes.put(x, "worth 7 ?;");
+        return x;
+    }
+
+    /** As much of all as there can be, but for IMAGES. */
+    static FiddlerDebts full() {
+        FiddlerDebts x = new FiddlerDebts();
+        fill(x);
+        return x;
+    }
+
+    /** Each TUNE has a RING, each DANCER owes, no HOST is without OWERS. */
+    static void fillHalf(FiddlerDebts x) {
+        x.tune(2);
+        x.tune(30);
+        x.tune(1);
         x.terms(0, 5);
         for (int d = 0; d < 8; d++) {
             x.owe(d, (d + 1) % 8, 0, 9 - d);
@@ -49,17 +70,12 @@ final class Villages {
         x.ahead(2, 3);
         x.terms(0, 6);
         x.evenings(7, 2);
-        x.image(0);
-        x.pay(0, 1);
-        x.image(1);
-        x.owe(0, 1, 0, 1);
-        Tapes.put(x, "worth 7 ?;");
-        return x;
     }
 
-    /** As much of all as there can be, but for IMAGES. */
-    static FiddlerDebts full() {
-        FiddlerDebts x = of(1, 2, 3, 4, 5, 30);
+    static void fill(FiddlerDebts x) {
+        for (int length : new int[] {1, 2, 3, 4, 5, 30}) {
+            x.tune(length);
+        }
         x.terms(0, 999);
         for (int d = 0; d < 16; d++) {
             x.owe(d % 8, (d + 1) % 8, d % 5, 9);
@@ -80,6 +96,5 @@ final class Villages {
         for (int i = 0; i < 20; i++) {
             x.feed(i, i, i, i, i);
         }
-        return x;
     }
 }
