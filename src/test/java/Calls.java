@@ -4,6 +4,7 @@ import java.lang.reflect.Modifier;
 import java.util.Arrays;
 import java.util.HashMap;
 import java.util.Map;
+import java.util.Set;
 
 /** Calls by their names, of FiddlerDebts and of SlowVillage alike. */
 final class Calls {
@@ -26,6 +27,10 @@ final class Calls {
         } catch (IllegalAccessException hidden) {
             throw new IllegalStateException(hidden);
         }
+    }
+
+    static Set<String> names(Class<?> kind) {
+        return faceOf(kind).keySet();
     }
 
     private static Map<String, Method> faceOf(Class<?> kind) {

@@ -1,8 +1,10 @@
 import java.math.BigInteger;
 import java.util.ArrayList;
 import java.util.Arrays;
+import java.util.HashMap;
 import java.util.HashSet;
 import java.util.List;
+import java.util.Map;
 import java.util.Set;
 import java.util.TreeSet;
 
@@ -13,8 +15,8 @@ import java.util.TreeSet;
 final class SlowVillage {
     static final int NONE = -1;
     static final int NOTHING = -1000000000;
-    /** Stands for an answer that would take too long to try out. */
-    static final int TOO_LONG = Integer.MIN_VALUE;
+    /** As many choices of HALVES are tried out one by one; where there are more, only the best of each set of OWERS. */
+    private static final int MOST_TRIED = 100_000;
 
     record Debt(int ower, int creditor, int tune, int halves, int since) {
         Debt with(int many) {
@@ -463,13 +465,52 @@ final class SlowVillage {
                 choices *= debt.halves() + 1;
             }
         }
-        if (choices > 300_000) {
-            return null;
-        }
         int[] worths = s.debts.stream().mapToInt(this::worth).toArray();
         bestFeast = null;
-        tryFeasts(playable, 0, new int[s.debts.size()], worths, minutes, barrels);
+        if (choices > MOST_TRIED) {
+            tryOwers(playable, worths, minutes, barrels);
+        } else {
+            tryFeasts(playable, 0, new int[s.debts.size()], worths, minutes, barrels);
+        }
         return bestFeast;
+    }
+
+    private void tryOwers(List<Integer> playable, int[] worths, int minutes, int barrels) {
+        for (int set = 0; set < 256; set++) {
+            if (Integer.bitCount(set) <= barrels) {
+                int owers = set;
+                List<Integer> theirs = playable.stream().filter(d -> (owers >> s.debts.get(d).ower() & 1) != 0).toList();
+                keepBetter(feastOf(theirs, bestHalves(theirs, worths, minutes), worths));
+            }
+        }
+    }
+
+    /** Within the fewest minutes in which as much worth fits, each debt in turn plays as few as still let it be as much. */
+    private int[] bestHalves(List<Integer> theirs, int[] worths, int minutes) {
+        int[][] most = new int[theirs.size() + 1][minutes + 1];
+        for (int i = theirs.size() - 1; i >= 0; i--) {
+            Debt debt = s.debts.get(theirs.get(i));
+            for (int m = 0; m <= minutes; m++) {
+                for (int h = 0; h <= debt.halves() && h * s.tunes.get(debt.tune()) <= m; h++) {
+                    int rest = most[i + 1][m - h * s.tunes.get(debt.tune())];
+                    most[i][m] = Math.max(most[i][m], h * worths[theirs.get(i)] + rest);
+                }
+            }
+        }
+        int left = 0;
+        while (most[0][left] < most[0][minutes]) {
+            left++;
+        }
+        int[] halves = new int[s.debts.size()];
+        for (int i = 0; i < theirs.size(); i++) {
+            int d = theirs.get(i);
+            int length = s.tunes.get(s.debts.get(d).tune());
+            while (halves[d] * worths[d] + most[i + 1][left - halves[d] * length] < most[i][left]) {
+                halves[d]++;
+            }
+            left -= halves[d] * length;
+        }
+        return halves;
     }
 
     private void tryFeasts(List<Integer> playable, int at, int[] halves, int[] worths, int minutes, int barrels) {
@@ -482,6 +523,13 @@ final class SlowVillage {
             halves[d] = 0;
             return;
         }
+        Feast feast = feastOf(playable, halves, worths);
+        if (feast.minutes <= minutes && Integer.bitCount(feast.owers) <= barrels) {
+            keepBetter(feast);
+        }
+    }
+
+    private Feast feastOf(List<Integer> playable, int[] halves, int[] worths) {
         int worth = 0;
         int owers = 0;
         int taken = 0;
@@ -490,11 +538,12 @@ final class SlowVillage {
             taken += halves[d] * s.tunes.get(s.debts.get(d).tune());
             owers |= halves[d] > 0 ? 1 << s.debts.get(d).ower() : 0;
         }
-        if (taken <= minutes && Integer.bitCount(owers) <= barrels) {
-            Feast feast = new Feast(worth, owers, taken, halves.clone());
-            if (bestFeast == null || feast.compare(bestFeast) < 0) {
-                bestFeast = feast;
-            }
+        return new Feast(worth, owers, taken, halves.clone());
+    }
+
+    private void keepBetter(Feast feast) {
+        if (bestFeast == null || feast.compare(bestFeast) < 0) {
+            bestFeast = feast;
         }
     }
 
@@ -507,9 +556,6 @@ final class SlowVillage {
             return NONE;
         }
         Feast feast = feast(host, minutes, barrels);
-        if (feast == null) {
-            return TOO_LONG;
-        }
         return switch (what) {
             case 0 -> feast.worth;
             case 1 -> feast.owers;
@@ -523,9 +569,6 @@ final class SlowVillage {
             return no(-1);
         }
         Feast feast = feast(host, minutes, barrels);
-        if (feast == null) {
-            return TOO_LONG;
-        }
         for (int d = 0; d < s.debts.size(); d++) {
             s.debts.set(d, s.debts.get(d).with(s.debts.get(d).halves() - feast.halves[d]));
         }
@@ -676,34 +719,43 @@ final class SlowVillage {
         for (int d = 0; d < s.dances.size(); d++) {
             behind.add(behind(d));
         }
-        tryOrders(dances, behind, 8, ends);
+        if (dances.isEmpty()) {
+            ends[8] = 1;
+        }
+        for (int last : dances) {
+            if (dances.stream().noneMatch(d -> behind.get(last).contains(d))) {
+                Set<Integer> others = new TreeSet<>(dances);
+                others.remove(last);
+                ends[s.dances.get(last).a()] += ordersOf(others, behind, new HashMap<>());
+            }
+        }
         return ends;
     }
 
-    /** Takes one after another that none of those still open must stand ahead of. */
-    private void tryOrders(List<Integer> open, List<Set<Integer>> behind, int last, int[] ends) {
+    /** Takes one after another that none of those still open must stand ahead of; what it found it remembers. */
+    private static int ordersOf(Set<Integer> open, List<Set<Integer>> behind, Map<Set<Integer>, Integer> found) {
         if (open.isEmpty()) {
-            ends[last]++;
+            return 1;
         }
+        Integer before = found.get(open);
+        if (before != null) {
+            return before;
+        }
+        int sum = 0;
         for (int next : open) {
             if (open.stream().noneMatch(o -> behind.get(o).contains(next))) {
-                List<Integer> rest = new ArrayList<>(open);
-                rest.remove(Integer.valueOf(next));
-                tryOrders(rest, behind, s.dances.get(next).a(), ends);
+                Set<Integer> rest = new TreeSet<>(open);
+                rest.remove(next);
+                sum += ordersOf(rest, behind, found);
             }
         }
-    }
-
-    private boolean tooManyOrders(int tune) {
-        return s.dances.stream().filter(p -> p.b() == tune).count() > 7;
+        found.put(open, sum);
+        return sum;
     }
 
     int orders(int tune, int dancer) {
         if (!isTune(tune) || !in(dancer, NONE, 7)) {
             return NONE;
-        }
-        if (tooManyOrders(tune)) {
-            return TOO_LONG;
         }
         int[] ends = ends(tune);
         return dancer == NONE ? Arrays.stream(ends).sum() : ends[dancer];
@@ -712,9 +764,6 @@ final class SlowVillage {
     int can(int tune) {
         if (!isTune(tune)) {
             return NONE;
-        }
-        if (tooManyOrders(tune)) {
-            return TOO_LONG;
         }
         int[] ends = ends(tune);
         int bits = 0;
